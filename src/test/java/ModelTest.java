@@ -1,0 +1,145 @@
+import java.util.Random;
+
+/** Runs of calls that are drawn, always the same ones, on the class and on the model at once. */
+public final class ModelTest {
+    private static final int OBJECTS = 6000;
+    private static final int CALLS = 400;
+    private static final int[] CONTROL = {
+        0, 0, 0, 1, 1, 2, 2, 3, 3, 4, 4, 5, 6, 7, 7, 8, 9, 10, 10, 11, 12, 12, 13, 16, 19, 22, 24};
+    private static final int[] ROWS = {13, 13, 14, 15, 16, 16, 17, 17, 18, 18, 19, 19, 19, 20, 24};
+    private static final int[] SUMS = {19, 19, 20, 20, 20, 20, 21, 21, 21, 21, 22, 23, 24, 24};
+
+    private final Check check = new Check("model");
+    private final Random random;
+    private final GaugeBench bench = new GaugeBench();
+    private final Model model = new Model();
+    private final StringBuilder calls = new StringBuilder();
+
+    private ModelTest(long seed) {
+        random = new Random(seed);
+    }
+
+    public static void main(String[] args) {
+        Check all = new Check("model");
+        for (int i = 0; i < OBJECTS; i++) {
+            ModelTest test = new ModelTest(i);
+            test.callAll(i % 4);
+            all.same("object " + i + "\n" + (test.check.isWrong() ? test.calls : ""),
+                false, test.check.isWrong());
+            if (all.isWrong()) {
+                break;
+            }
+        }
+        all.end();
+    }
+
+    private void callAll(int profile) {
+        same("new", 0, 0);
+        lookAtAll();
+        for (int i = 0; i < CALLS && !check.isWrong(); i++) {
+            int draw = random.nextInt(100);
+            if (draw < 82) {
+                step(profile);
+            } else if (draw < 85) {
+                int routine = random.nextInt(6) - 1;
+                same("choose " + routine, model.choose(routine), bench.choose(routine));
+            } else if (draw < 87) {
+                same("clear", model.clear(), bench.clear());
+            } else {
+                closeAll();
+                same("run", model.run(), bench.run());
+                lookAtAll();
+            }
+        }
+    }
+
+    private void closeAll() {
+        for (int i = 0; i < 7 && random.nextInt(12) > 0; i++) {
+            take(0, 0, 0, 0);
+        }
+        if (bench.count(0) == 40 && random.nextInt(3) > 0) {
+            same("clear", model.clear(), bench.clear());
+        }
+    }
+
+    private void step(int profile) {
+        int what;
+        switch (profile) {
+            case 0: what = CONTROL[random.nextInt(CONTROL.length)]; break;
+            case 1: what = ROWS[random.nextInt(ROWS.length)]; break;
+            case 2: what = SUMS[random.nextInt(SUMS.length)]; break;
+            default: what = random.nextInt(25);
+        }
+        if (random.nextInt(60) == 0) {
+            what = random.nextInt(40) - 8;
+        }
+        boolean wild = random.nextInt(40) == 0;
+        take(what, a(what, wild), b(what, wild), argument(7, wild));
+    }
+
+    private int a(int what, boolean wild) {
+        switch (what) {
+            case 2: return 1 + argument(10, wild);
+            case 4: return argument(6, wild);
+            case 7: case 9: return argument(99, wild);
+            case 12: return argument(3, wild);
+            case 13: case 14: case 15: case 16: case 17: return argument(17, wild);
+            case 18: return 16 + argument(1, wild);
+            case 20: case 21: return argument(13, wild);
+            default: return argument(7, wild);
+        }
+    }
+
+    private int b(int what, boolean wild) {
+        if (what == 11) {
+            return argument(3, wild);
+        }
+        if (what != 19) {
+            return argument(7, wild);
+        }
+        switch (random.nextInt(6)) {
+            case 0: return random.nextInt();
+            case 1: return random.nextInt(41) - 20;
+            case 2: return random.nextBoolean() ? Integer.MAX_VALUE : Integer.MIN_VALUE;
+            case 3: return 0;
+            default: return 8 * (random.nextInt(21) - 3);
+        }
+    }
+
+    private int argument(int most, boolean wild) {
+        return wild ? random.nextInt(most + 7) - 3 : random.nextInt(most + 1);
+    }
+
+    private void take(int what, int a, int b, int c) {
+        same("step " + what + ", " + a + ", " + b + ", " + c,
+            model.step(what, a, b, c), bench.step(what, a, b, c));
+    }
+
+    private void lookAtAll() {
+        for (int d = -1; d <= 8; d++) {
+            same("dial " + d, model.dial(d), bench.dial(d));
+        }
+        for (int w = -1; w <= 18; w++) {
+            same("size " + w, model.size(w), bench.size(w));
+            for (int i = -1; i <= 16; i++) {
+                same("value " + w + ", " + i, model.value(w, i), bench.value(w, i));
+                same("isFitted " + w + ", " + i, model.isFitted(w, i), bench.isFitted(w, i));
+            }
+        }
+        for (int i = -1; i <= model.count(3); i++) {
+            same("log " + i, model.log(i), bench.log(i));
+            same("isMinus " + i, model.isMinus(i), bench.isMinus(i));
+        }
+        for (int what = -1; what <= 6; what++) {
+            same("count " + what, model.count(what), bench.count(what));
+            same("fault " + what, model.fault(what), bench.fault(what));
+        }
+    }
+
+    private void same(String call, Object due, Object got) {
+        if (!call.startsWith("value") && !call.startsWith("isFitted") || !due.equals(got)) {
+            calls.append(call).append(" -> ").append(got).append('\n');
+        }
+        check.same(call, due, got);
+    }
+}
