@@ -222,7 +222,8 @@ public final class GaugeBench {
 
         private final int[] openStep = new int[MOST_OPEN];
         private final int[] openPart = new int[MOST_OPEN];
-        private final int[] openCatches = new int[MOST_OPEN];
+        /** Of a block that is open: its parts behind the first, which are CATCH parts up to FINALLY. */
+        private final int[] laterParts = new int[MOST_OPEN];
         int openBlocks;
 
         Routine() {
@@ -250,7 +251,7 @@ public final class GaugeBench {
         boolean hasRoomInBlocks(int next) {
             switch (next) {
                 case END: return openBlocks > 0;
-                case CATCH: return hasRoomForPart() && openCatches[openBlocks - 1] < MOST_CATCHES;
+                case CATCH: return hasRoomForPart() && laterParts[openBlocks - 1] < MOST_CATCHES;
                 case FINALLY: return hasRoomForPart();
                 case LEAVE: return canLeave();
                 case RETURN: return !isPartOpen(FINALLY);
@@ -312,7 +313,7 @@ public final class GaugeBench {
             if (openBlocks < MOST_OPEN) {
                 openStep[openBlocks] = length;
                 openPart[openBlocks] = length;
-                openCatches[openBlocks] = 0;
+                laterParts[openBlocks] = 0;
                 openBlocks++;
             }
         }
@@ -321,7 +322,7 @@ public final class GaugeBench {
             if (openBlocks > 0) {
                 partEnd[openPart[openBlocks - 1]] = length;
                 openPart[openBlocks - 1] = length;
-                openCatches[openBlocks - 1] += what[length] == CATCH ? 1 : 0;
+                laterParts[openBlocks - 1]++;
             }
         }
 
@@ -733,7 +734,6 @@ public final class GaugeBench {
 
         private int doFinally(int routine, int part, Fault caught, int calls, int before) {
             Fault goingOn = thrown;
-            thrown = null;
             lastParts++;
             if (doPart(routine, part, caught, calls) == BY_FAULT) {
                 return BY_FAULT;
