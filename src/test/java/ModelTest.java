@@ -2,8 +2,10 @@ import java.util.Random;
 
 /** Runs of calls that are drawn, always the same ones, on the class and on the model at once. */
 public final class ModelTest {
-    private static final int OBJECTS = 6000;
+    private static final int OBJECTS = 2000;
+    private static final int NESTED_OBJECTS = 6000;
     private static final int CALLS = 400;
+    private static final int[] IN_BLOCKS = {5, 6, 7, 7, 8, 9, 9, 10, 10, 12, 12, 13, 15, 16, 19, 20, 22, 24};
     private static final int[] CONTROL = {
         0, 0, 0, 1, 1, 2, 2, 3, 3, 4, 4, 5, 6, 7, 7, 8, 9, 10, 10, 11, 12, 12, 13, 16, 19, 22, 24};
     private static final int[] ROWS = {13, 13, 14, 15, 16, 16, 17, 17, 18, 18, 19, 19, 19, 20, 24};
@@ -21,9 +23,13 @@ public final class ModelTest {
 
     public static void main(String[] args) {
         Check all = new Check("model");
-        for (int i = 0; i < OBJECTS; i++) {
+        for (int i = 0; i < OBJECTS + NESTED_OBJECTS; i++) {
             ModelTest test = new ModelTest(i);
-            test.callAll(i % 4);
+            if (i < OBJECTS) {
+                test.callAll(i % 4);
+            } else {
+                test.nestAll();
+            }
             all.same("object " + i + "\n" + (test.check.isWrong() ? test.calls : ""),
                 false, test.check.isWrong());
             if (all.isWrong()) {
@@ -51,6 +57,71 @@ public final class ModelTest {
                 lookAtAll();
             }
         }
+    }
+
+    /** Routines of blocks in blocks, so that faults are caught, wrapped and go through FINALLY parts. */
+    private void nestAll() {
+        for (int round = 0; round < 3 && !check.isWrong(); round++) {
+            for (int routine = 0; routine < 4; routine++) {
+                same("choose " + routine, model.choose(routine), bench.choose(routine));
+                same("clear", model.clear(), bench.clear());
+                nest(0);
+            }
+            for (int routine = 0; routine < 4 && !check.isWrong(); routine++) {
+                same("choose " + routine, model.choose(routine), bench.choose(routine));
+                same("run", model.run(), bench.run());
+                lookAtAll();
+            }
+        }
+    }
+
+    /** Leaves room for the ENDs of the blocks that are open. */
+    private boolean hasRoom(int steps) {
+        return bench.count(0) + bench.count(1) + steps <= 40;
+    }
+
+    private void nest(int depth) {
+        int steps = random.nextInt(depth == 0 ? 8 : 4);
+        for (int i = 0; i < steps; i++) {
+            int draw = random.nextInt(10);
+            if (draw < 3 && hasRoom(4) && depth < 7) {
+                nestTry(depth);
+            } else if (draw == 3 && hasRoom(2)) {
+                nestIn(4, random.nextInt(7), 0, depth);
+            } else if (draw == 4 && hasRoom(2)) {
+                nestIn(11, random.nextInt(8), random.nextInt(4), depth);
+            } else if (hasRoom(1)) {
+                int what = IN_BLOCKS[random.nextInt(IN_BLOCKS.length)];
+                take(what, a(what, false), b(what, false), argument(7, false));
+            }
+        }
+    }
+
+    private void nestIn(int what, int a, int b, int depth) {
+        int open = bench.count(1);
+        take(what, a, b, random.nextInt(8));
+        nest(depth + 1);
+        if (bench.count(1) > open) {
+            take(0, 0, 0, 0);
+        }
+    }
+
+    private void nestTry(int depth) {
+        int open = bench.count(1);
+        take(1, 0, 0, 0);
+        nest(depth + 1);
+        if (bench.count(1) == open) {
+            return;
+        }
+        for (int i = random.nextInt(4); i > 0 && hasRoom(1); i--) {
+            take(2, random.nextInt(3) == 0 ? 1 : 1 + random.nextInt(11), 0, 0);
+            nest(depth + 1);
+        }
+        if (random.nextInt(3) == 0 && hasRoom(1)) {
+            take(3, 0, 0, 0);
+            nest(depth + 1);
+        }
+        take(0, 0, 0, 0);
     }
 
     private void closeAll() {
