@@ -556,17 +556,9 @@ public final class GaugeBench {
             }
         }
 
+        /** What ints answer, wrapped, is what longs do, cut to an int. */
         static int whole(int sum, int x, int y) {
-            switch (sum) {
-                case 0: return x + y;
-                case 1: return x - y;
-                case 2: return x * y;
-                case DIVIDE: return x / y;
-                case REST: return x % y;
-                case 5: return x & y;
-                case 6: return x | y;
-                default: return x ^ y;
-            }
+            return (int) wide(sum, x, y);
         }
 
         static long wide(int sum, long x, long y) {
