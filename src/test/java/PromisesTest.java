@@ -38,66 +38,57 @@ public final class PromisesTest {
             desk.size(w, -1).value(w, 0, 0).fitted(w, 0, false);
         }
         for (int r = 3; r >= 0; r--) {
-            CHECK.same("choose " + r, 0, desk.bench.choose(r));
+            desk.choose(r);
         }
         desk("routine 0 is at hand").add(Desk.THROW, 1).run(9).faults(9, 0);
     }
 
     private static void choose() {
         Desk desk = desk("choose").choose(3).add(Desk.THROW, 5).add(Desk.NOTE, 0).choose(1).add(Desk.NOTE, 0);
-        CHECK.same("choose(3)", 2, desk.bench.choose(3));
+        desk.choose(3);
         for (int wrong : new int[] {-1, 4, Integer.MIN_VALUE, Integer.MAX_VALUE}) {
-            CHECK.same("choose(" + wrong + ")", -1, desk.bench.choose(wrong));
+            desk.choose(wrong);
         }
         desk.counts(2).run(9).faults(9, 120, 6, 5, 0, 120);
-        CHECK.same("choose(1)", 1, desk.bench.choose(1));
-        CHECK.same("choose(0)", 0, desk.bench.choose(0));
-        desk.counts(0);
+        desk.choose(1).counts(1).choose(0).counts(0);
     }
 
     /** Each argument that is named: its least, its most, and those right beyond. */
     private static void stepsWithWrongArguments() {
-        Desk desk = desk("arguments");
         for (int what : new int[] {-1, 25, Integer.MIN_VALUE, Integer.MAX_VALUE}) {
-            desk.refuse(-1, what, 0, 0, 0);
+            desk("what").refuse(-1, what, 0, 0, 0);
         }
-        desk.add(Desk.TRY);
-        bounds(desk, Desk.CATCH, 0, 1, 11, 1);
-        desk.clear();
-        bounds(desk, Desk.LOOP, 0, 0, 6, 0);
-        bounds(desk, Desk.THROW, 0, 0, 99, 0);
-        desk.clear().add(Desk.TRY).add(Desk.CATCH, 1);
-        bounds(desk, Desk.WRAP, 0, 0, 99, 0);
-        desk.clear();
-        bounds(desk, Desk.IF, 0, 0, 7, 0, 0, 0);
-        bounds(desk, Desk.IF, 1, 0, 3, 0, 0, 0);
-        desk.clear();
-        bounds(desk, Desk.IF, 2, 0, 7, 0, 0, 0);
-        bounds(desk, Desk.CALL, 0, 0, 3, 0);
-        bounds(desk, Desk.MAKE, 0, 0, 17, 0, 0);
-        bounds(desk, Desk.MAKE, 1, 0, 7, 0, 0);
-        bounds(desk, Desk.DROP, 0, 0, 17, 0);
-        bounds(desk, Desk.COUNT, 0, 0, 17, 0, 0);
-        bounds(desk, Desk.COUNT, 1, 0, 7, 0, 0);
-        desk.clear();
+        bounds(Desk.CATCH, 0, 1, 11, 1);
+        bounds(Desk.LOOP, 0, 0, 6, 0);
+        bounds(Desk.THROW, 0, 0, 99, 0);
+        bounds(Desk.WRAP, 0, 0, 99, 0);
+        bounds(Desk.IF, 0, 0, 7, 0, 0, 0);
+        bounds(Desk.IF, 1, 0, 3, 0, 0, 0);
+        bounds(Desk.IF, 2, 0, 7, 0, 0, 0);
+        bounds(Desk.CALL, 0, 0, 3, 0);
+        bounds(Desk.MAKE, 0, 0, 17, 0, 0);
+        bounds(Desk.MAKE, 1, 0, 7, 0, 0);
+        bounds(Desk.DROP, 0, 0, 17, 0);
+        bounds(Desk.COUNT, 0, 0, 17, 0, 0);
+        bounds(Desk.COUNT, 1, 0, 7, 0, 0);
         for (int what : new int[] {Desk.GET, Desk.PUT}) {
-            bounds(desk, what, 0, 0, 17, 0, 0, 0);
-            bounds(desk, what, 1, 0, 7, 0, 0, 0);
-            bounds(desk, what, 2, 0, 7, 0, 0, 0);
+            bounds(what, 0, 0, 17, 0, 0, 0);
+            bounds(what, 1, 0, 7, 0, 0, 0);
+            bounds(what, 2, 0, 7, 0, 0, 0);
         }
-        bounds(desk, Desk.FIT, 0, 16, 17, 16, 0);
-        bounds(desk, Desk.FIT, 1, 0, 7, 16, 0);
-        bounds(desk, Desk.SET, 0, 0, 7, 0, 0);
-        bounds(desk, Desk.NOTE, 0, 0, 7, 0);
+        bounds(Desk.FIT, 0, 16, 17, 16, 0);
+        bounds(Desk.FIT, 1, 0, 7, 16, 0);
+        bounds(Desk.SET, 0, 0, 7, 0, 0);
+        bounds(Desk.NOTE, 0, 0, 7, 0);
         for (int what = Desk.FINE; what <= Desk.WIDE; what++) {
-            desk.clear();
-            bounds(desk, what, 0, 0, what <= Desk.ROUGH ? 13 : 7, 0, 0, 0);
-            bounds(desk, what, 1, 0, 7, 0, 0, 0);
-            bounds(desk, what, 2, 0, 7, 0, 0, 0);
+            bounds(what, 0, 0, what <= Desk.ROUGH ? 13 : 7, 0, 0, 0);
+            bounds(what, 1, 0, 7, 0, 0, 0);
+            bounds(what, 2, 0, 7, 0, 0, 0);
         }
     }
 
-    private static void bounds(Desk desk, int what, int which, int least, int most, int... arguments) {
+    private static void bounds(int what, int which, int least, int most, int... arguments) {
+        Desk desk = desk("argument " + which + " of " + what).steps("TRY, CATCH 1");
         for (int wrong : new int[] {least - 1, most + 1, Integer.MIN_VALUE, Integer.MAX_VALUE}) {
             int[] changed = arguments.clone();
             changed[which] = wrong;
@@ -122,8 +113,7 @@ public final class PromisesTest {
     private static void ends() {
         Desk desk = desk("END").refuse(-2, Desk.END).add(Desk.NOTE, 0).refuse(-2, Desk.END);
         for (int what : new int[] {Desk.TRY, Desk.LOOP, Desk.IF}) {
-            desk.add(what, 0, 0, 0).counts(desk.bench.count(0), 1).add(Desk.END)
-                .counts(desk.bench.count(0), 0).refuse(-2, Desk.END);
+            desk.add(what, 0, 0, 0).count(1, 1).add(Desk.END).count(1, 0).refuse(-2, Desk.END);
         }
     }
 
@@ -197,14 +187,12 @@ public final class PromisesTest {
 
     private static void clear() {
         Desk desk = desk("clear");
-        CHECK.same("clear of none", 0, desk.bench.clear());
+        desk.clear();
         desk.add(Desk.SET, 3, 12).add(Desk.SET, 0, 8).add(Desk.MAKE, 4, 0).add(Desk.NOTE, 3).run(0);
         desk.add(Desk.TRY).add(Desk.CATCH, 1).add(Desk.TRY).add(Desk.FINALLY).choose(2).add(Desk.NOTE, 0).choose(0);
-        CHECK.same("clear of 8", 8, desk.bench.clear());
-        CHECK.same("clear again", 0, desk.bench.clear());
-        desk.counts(0, 0, 4, 1).logs(1.5).dial(3, 1.5).size(4, 1);
+        desk.counts(8, 2).clear().clear().counts(0, 0, 4, 1).logs(1.5).dial(3, 1.5).size(4, 1);
         desk.refuse(-2, Desk.END).refuse(-2, Desk.CATCH, 1).refuse(-2, Desk.TELL).add(Desk.RETURN).run(0);
-        CHECK.same("another one stays", 1, desk.bench.choose(2));
+        desk.choose(2).counts(1);
         // Nothing of the routine that was there before shows in the next one.
         desk.choose(0).clear().add(Desk.TRY).add(Desk.THROW, 4).add(Desk.END).add(Desk.NOTE, 3).run(9).logs();
     }
@@ -271,18 +259,14 @@ public final class PromisesTest {
         Desk desk = desk("log").add(Desk.SET, 1, -4).add(Desk.NOTE, 0).add(Desk.NOTE, 1).add(Desk.FINE, 2, 1, 0)
             .add(Desk.NOTE, 1).add(Desk.SET, 2, 3).add(Desk.NOTE, 2).run(0).logs(0, -0.5, -0.0, 0.375);
         for (int wrong : WRONG) {
-            CHECK.same("log(" + wrong + ")", 0.0, desk.bench.log(wrong));
-            CHECK.same("isMinus(" + wrong + ")", false, desk.bench.isMinus(wrong));
+            desk.log(wrong, 0).minus(wrong, false);
         }
         desk.clear().add(Desk.NOTE, 2).run(0).logs(0.375).clear().run(0).logs();
-        CHECK.same("a log of before", 0.0, desk.bench.log(1));
-        CHECK.same("a minus of before", false, desk.bench.isMinus(1));
-        desk.clear().add(Desk.LOOP, 6).add(Desk.LOOP, 6).add(Desk.LOOP, 6).add(Desk.NOTE, 2).add(Desk.END).add(Desk.END)
+        desk.log(1, 0).minus(1, false).clear().add(Desk.LOOP, 6).add(Desk.LOOP, 6).add(Desk.LOOP, 6).add(Desk.NOTE, 2).add(Desk.END).add(Desk.END)
             .add(Desk.END).run(10);
         // A LOOP; each round of it: 1 and a LOOP; of that: 1 and a LOOP of 6 rounds and NOTEs, so 14.
         // 1 + 2 * 86 are two rounds; then 2, one round of 14, and 11: round, LOOP, 4 NOTEs and a round.
-        desk.counts(7, 0, 200, 2 * 36 + 6 + 4);
-        CHECK.same("a long log ends in 0.375", 0.375, desk.bench.log(desk.bench.count(3) - 1));
+        desk.counts(7, 0, 200, 2 * 36 + 6 + 4).log(2 * 36 + 6 + 3, 0.375);
         tellMuch();
     }
 
@@ -294,9 +278,7 @@ public final class PromisesTest {
             desk.add(Desk.TELL);
         }
         desk.add(Desk.END).add(Desk.END).add(Desk.END).run(10).counts(40, 0, 200, 4 * 189, 1, 0);
-        CHECK.same("the last kind told", 9.0, desk.bench.log(752));
-        CHECK.same("the last weight told", 2.0, desk.bench.log(754));
-        desk.faults(10, 34);
+        desk.log(752, 9).log(754, 2).faults(10, 34);
     }
 
     private static void count() {
@@ -305,7 +287,7 @@ public final class PromisesTest {
             .add(Desk.END).run(0).counts(12, 0, 6, 5, 2, 2);
         desk.add(Desk.LOOP, 0).add(Desk.TRY).counts(14, 2, 6, 5, 2, 2);
         for (int wrong : new int[] {-1, 6, Integer.MIN_VALUE, Integer.MAX_VALUE}) {
-            CHECK.same("count(" + wrong + ")", -1, desk.bench.count(wrong));
+            desk.count(wrong, -1);
         }
         desk.choose(1).counts(0, 0, 6, 5, 2, 2).run(0).counts(0, 0, 0, 0, 0, 0);
     }
@@ -316,7 +298,7 @@ public final class PromisesTest {
         // OWN 30 weighs 31; WRAPPED weighs twice 1 + 31 + 4.
         desk.faults(11, 83, 72, 4, 1, 81);
         for (int wrong : new int[] {-1, 6, Integer.MIN_VALUE, Integer.MAX_VALUE}) {
-            CHECK.same("fault(" + wrong + ")", -1, desk.bench.fault(wrong));
+            desk.fault(wrong, -1);
         }
         desk.clear().add(Desk.COUNT, 3, 0).run(3).faults(3, 80, 11, 0, 0, 80).clear().run(0).noFault();
         desk.add(Desk.TRY).add(Desk.THROW, 1).add(Desk.CATCH, 1).add(Desk.END).run(0).noFault();

@@ -66,8 +66,8 @@ public final class StepsTest {
                 Desk desk = desk(kind + " under " + other).choose(3).add(Desk.TRY).choose(0).add(Desk.TRY);
                 throwing(desk, kind).add(Desk.CATCH, other).add(Desk.NOTE, 7).add(Desk.END);
                 desk.run(isUnder(kind, other) ? 0 : kind);
-                desk.counts(desk.bench.count(0), 0, desk.bench.count(2), isUnder(kind, other) ? 1 : 0,
-                    (kind == 11 ? 1 : 0) + (isUnder(kind, other) ? 1 : 0), 0);
+                desk.count(3, isUnder(kind, other) ? 1 : 0).count(5, 0)
+                    .count(4, (kind == 11 ? 1 : 0) + (isUnder(kind, other) ? 1 : 0));
             }
         }
     }
@@ -95,17 +95,18 @@ public final class StepsTest {
 
     private static void weights() {
         int[] due = {11, 1, 3, 101, 106, 13, 1, 2 * (1 + 13 + 5)};
+        int[] places = {1, 2, 2, 1, 2, 1, 1, 4};
         for (int i = 0; i < KINDS.length; i++) {
             Desk desk = desk("weight of " + KINDS[i]).choose(3).add(Desk.TRY).choose(0).add(Desk.TRY);
             throwing(desk, KINDS[i]).add(Desk.CATCH, 1).add(Desk.TELL).add(Desk.AGAIN).add(Desk.END).run(KINDS[i]);
             int number = KINDS[i] == 9 ? 12 : KINDS[i] == 11 ? 5 : 0;
-            int place = desk.bench.fault(1);
+            int place = places[i];
             int earlier = KINDS[i] == 11 ? 1 : 0;
             desk.faults(KINDS[i], place, due[i], number, earlier, KINDS[i] == 11 ? 2 : place)
                 .logs(KINDS[i], place, due[i], earlier);
             Desk wrapped = desk("weight of wrapped " + KINDS[i]).choose(3).add(Desk.TRY).choose(0).add(Desk.TRY);
             throwing(wrapped, KINDS[i]).add(Desk.CATCH, 1).add(Desk.WRAP, 9).add(Desk.END).run(11);
-            wrapped.faults(11, wrapped.bench.count(0) - 2, 2 * (1 + due[i] + 9), 9, earlier + 1,
+            wrapped.faults(11, place + (KINDS[i] == 11 ? 3 : 2), 2 * (1 + due[i] + 9), 9, earlier + 1,
                 KINDS[i] == 11 ? 2 : place);
         }
     }
@@ -314,9 +315,8 @@ public final class StepsTest {
     }
 
     private static void made() {
-        Desk desk = desk("MAKE");
         for (int w = 0; w < 18; w++) {
-            desk.clear().add(Desk.SET, 0, 17 * 8 - 1).add(Desk.MAKE, w, 0).add(Desk.COUNT, w, 1).add(Desk.SET, 0, 8 * 17)
+            Desk desk = desk("MAKE " + w).add(Desk.SET, 0, 17 * 8 - 1).add(Desk.MAKE, w, 0).add(Desk.COUNT, w, 1).add(Desk.SET, 0, 8 * 17)
                 .add(Desk.MAKE, w, 0).run(8).faults(8, 4, 106).size(w, 16).dial(1, 16);
             desk.clear().add(Desk.SET, 0, -8).add(Desk.MAKE, w, 0).run(5).faults(5, 1, 3).size(w, 16);
             desk.clear().add(Desk.SET, 0, -7).add(Desk.MAKE, w, 0).add(Desk.COUNT, w, 1).run(0).size(w, 0).dial(1, 0);
@@ -371,13 +371,9 @@ public final class StepsTest {
             {1, 1, 1, 0, 1}, {-1, 17, 0, 0, 0}, {65535, 17, 0, 0, 0}, {-1, 17, 0, 0, 0}, {2147483647, 65553, 0, 0, 0},
             {1e15, 65553, 0, 0, 0}, {999999986991104.0, 65553.875, -0.125, -0.0, 0}, {1e15, 65553.875, -0.125, -0.0, tiny},
             {1e15, 65553.875, -0.125, -0.0, tiny}};
-        Desk desk = desk("held").add(Desk.SET, 1, 80000).add(Desk.FINE, 2, 1, 1).add(Desk.SET, 2, 80000)
-            .add(Desk.FINE, 2, 1, 2).add(Desk.SET, 2, 8000).add(Desk.FINE, 2, 1, 2).run(0).dial(1, 1e15);
-        desk.clear().add(Desk.SET, 5, 8).add(Desk.LOOP, 4).add(Desk.FINE, 3, 5, 1).add(Desk.END).run(0).dial(5, tiny);
-        desk.clear().add(Desk.SET, 2, 65553 * 8 + 7).add(Desk.SET, 3, -1).add(Desk.SET, 4, 0).add(Desk.FINE, 7, 4, 3).run(0);
-        desk.dial(4, -0.0);
         for (int w = 0; w < 18; w++) {
-            desk.clear().add(Desk.SET, 0, 8).add(Desk.MAKE, w, 0).add(Desk.SET, 0, 0);
+            Desk desk = desk("held by " + w).turn(1, 1e15).turn(2, 65553.875).turn(3, -0.125).turn(4, -0.0).turn(5, tiny)
+                .add(Desk.SET, 0, 8).add(Desk.MAKE, w, 0).add(Desk.SET, 0, 0);
             if (w >= 16) {
                 desk.add(Desk.FIT, w, 0);
             }
@@ -386,8 +382,7 @@ public final class StepsTest {
             }
             desk.run(0).logs(due[w / 2]).value(w, 0, due[w / 2][4]);
         }
-        desk.clear().add(Desk.SET, 0, 8).add(Desk.MAKE, 2, 0).add(Desk.SET, 0, 0).add(Desk.SET, 1, -129 * 8)
-            .add(Desk.PUT, 2, 0, 1).run(0).value(2, 0, 127);
+        desk("held as a byte").steps("SET 0 8, MAKE 2 0, SET 0 0, SET 1 -1032, PUT 2 0 1").run(0).value(2, 0, 127);
     }
 
     private static void throwingDoesNothing() {

@@ -3,8 +3,6 @@ public final class SumsTest {
     private static final Check CHECK = new Check("sums");
     private static final int X = 0;
     private static final int Y = 1;
-    private static final int SPARE = 6;
-    private static final int FACTOR = 7;
 
     private static final double[] NUMBERS = {
         0.0, -0.0, 1, -1, 0.5, -0.5, 1.5, -1.5, 2.5, -2.5, 3.5, 0.25, -0.75, 0.1, -0.1, 1.0 / 3, 7, -7, 3, 8, 10,
@@ -129,10 +127,7 @@ public final class SumsTest {
     }
 
     private static Desk done(int what, int sum, double x, double y) {
-        Desk desk = new Desk(CHECK, what + " " + sum + " of " + x + " and " + y);
-        turn(desk, X, x);
-        turn(desk, Y, y);
-        return desk.clear().add(what, sum, X, Y);
+        return new Desk(CHECK, what + " " + sum + " of " + x + " and " + y).turn(X, x).turn(Y, y).add(what, sum, X, Y);
     }
 
     private static void due(int what, int sum, double x, double y, double due) {
@@ -143,35 +138,13 @@ public final class SumsTest {
         done(what, sum, x, y).run(kind).faults(kind, 0).dial(X, x).dial(Y, y);
     }
 
-    /** Turns a dial to any double that it may hold: 26 and 27 bits of it, then its exponent. */
-    private static void turn(Desk desk, int dial, double number) {
-        long bits = Double.doubleToLongBits(number);
-        boolean isSmall = (bits >> 52 & 2047) == 0;
-        long mantissa = bits & (1L << 52) - 1 | (isSmall ? 0 : 1L << 52);
-        int exponent = (int) (bits >> 52 & 2047) - (isSmall ? 0 : 1) - 1074;
-        desk.clear().add(Desk.SET, dial, (int) (mantissa >> 27)).add(Desk.SET, SPARE, (int) (mantissa & (1 << 27) - 1))
-            .add(Desk.SET, FACTOR, 1 << 30).add(Desk.FINE, 3, SPARE, FACTOR).add(Desk.FINE, 0, dial, SPARE).run(0);
-        // The dial is the mantissa divided by 2 to the 30th now.
-        scale(desk, dial, exponent + 30);
-        desk.clear().add(Desk.SET, SPARE, bits < 0 ? -8 : 8).add(Desk.FINE, 7, dial, SPARE).run(0).dial(dial, number);
-    }
-
-    private static void scale(Desk desk, int dial, int exponent) {
-        int sum = exponent < 0 ? 3 : 2;
-        for (int left = Math.abs(exponent); left > 0; left -= 27) {
-            desk.clear().add(Desk.SET, FACTOR, 8 << Math.min(left, 27)).add(Desk.FINE, sum, dial, FACTOR).run(0);
-        }
-    }
-
     private static void pairs() {
-        Desk desk = new Desk(CHECK, "pairs");
-        for (int i = 0; i < NUMBERS.length; i++) {
-            for (int j = 0; j < NUMBERS.length; j++) {
-                turn(desk, 2, NUMBERS[i]);
-                turn(desk, 3, NUMBERS[j]);
+        for (double x : NUMBERS) {
+            for (double y : NUMBERS) {
+                Desk desk = new Desk(CHECK, "pair " + x + " and " + y).turn(2, x).turn(3, y);
                 for (int what = Desk.FINE; what <= Desk.WIDE; what++) {
                     for (int sum = 0; sum < (what <= Desk.ROUGH ? 14 : 8); sum++) {
-                        pair(desk, what, sum, NUMBERS[i], NUMBERS[j]);
+                        pair(desk, what, sum, x, y);
                     }
                 }
             }
@@ -179,19 +152,12 @@ public final class SumsTest {
     }
 
     private static void pair(Desk desk, int what, int sum, double x, double y) {
-        GaugeBench bench = desk.bench;
-        String call = what + " " + sum + " of " + x + " and " + y;
-        bench.clear();
-        // No step copies a dial: its number without sign, then with its sign.
-        bench.step(Desk.FINE, 8, X, 2);
-        bench.step(Desk.FINE, 7, X, 2);
-        bench.step(what, sum, X, 3);
-        int kind = bench.run();
         boolean isByZero = (sum == 3 || sum == 4) && divisor(what, y) == 0;
         double answer = isByZero ? 0 : answer(what, sum, x, y);
         int due = isByZero ? 7 : Math.abs(answer) > 1e15 ? 8 : 0;
-        CHECK.same(call + ": run", due, kind);
-        CHECK.same(call, due == 0 ? answer : x, bench.dial(X));
+        // No step copies a dial: its number without sign, then with its sign.
+        desk.add(Desk.FINE, 8, X, 2).add(Desk.FINE, 7, X, 2).add(what, sum, X, 3).run(due)
+            .dial(X, due == 0 ? answer : x).clear();
     }
 
     private static double divisor(int what, double y) {
