@@ -579,9 +579,6 @@ public final class GaugeBench {
          * y: each difference is of two numbers of which none is over twice the other, so exact.
          */
         private static double rest(double x, double y) {
-            if (x == 0) {
-                return x;
-            }
             double left = x < 0 ? -x : x;
             double part = y < 0 ? -y : y;
             int doublings = 0;

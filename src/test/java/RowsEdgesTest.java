@@ -10,6 +10,7 @@ public final class RowsEdgesTest {
         rowsAreMissingAtFirst();
         rowsOfNoPlaces();
         rowsOfSixteenPlaces();
+        rowsAreApart();
         placesAreZeroAtFirst();
         probesAreNoneAtFirst();
         flags();
@@ -122,6 +123,22 @@ public final class RowsEdgesTest {
             desk.clear().add(Desk.PUT, w, 0, 3).run(4).clear().add(Desk.GET, w, 0, 3).run(4).value(w, 16, 0);
             // The place right behind the last is none of the next row either.
             desk.value(w + 1, 0, 0);
+        }
+    }
+
+    /** 'ROWS are 0 .. 17', each with places of its own. */
+    private static void rowsAreApart() {
+        Desk desk = desk("all rows").steps("SET 0 128, SET 1 8, SET 2 120");
+        for (int w = 0; w < 18; w++) {
+            desk.add(Desk.MAKE, w, 0);
+        }
+        desk.steps("FIT 16 7, FIT 17 2").run(0);
+        for (int w = 0; w < 18; w++) {
+            // The first place of even rows, the last one of odd rows.
+            desk.clear().add(Desk.PUT, w, w % 2 == 0 ? 7 : 2, 1).run(0);
+        }
+        for (int w = 0; w < 18; w++) {
+            desk.value(w, 0, 1 - w % 2).value(w, 15, w % 2).value(w, 1, 0).value(w, 14, 0).size(w, 16);
         }
     }
 

@@ -50,6 +50,7 @@ public final class RunEdgesTest {
         wrapOfFiveEarlierOnes();
         tellTellsFourNumbers();
         theInnermostCatchPart();
+        theLongestLog();
         theLogIsEmptyAtTheBeginning();
         dialsAndRowsStay();
         CHECK.end();
@@ -311,6 +312,8 @@ public final class RunEdgesTest {
         desk("with that WRAPPED").steps("TRY, THROW 1, CATCH 9, WRAP 2").steps(last).run(11).faults(11, 3, 10, 2, 1, 1);
         desk("with that RETURN").steps("TRY, RETURN").steps(last).steps("NOTE 0").run(0).logs().noFault();
         desk("with that LEAVE").steps("LOOP 3, TRY, LEAVE").steps(last).steps("NOTE 0, END, NOTE 0").run(0).logs(0).noFault();
+        desk("a TRY that ends in it").steps("TRY, THROW 1, FINALLY, TRY, NOTE 0, CATCH 1, NOTE 0, END, END, NOTE 0").run(9)
+            .faults(9, 1).logs(0).count(4, 0);
         desk("a LOOP that is left in it").steps("TRY, THROW 1, FINALLY, LOOP 2, LEAVE, END, NOTE 0, END, NOTE 0").run(9)
             .faults(9, 1).logs(0);
         desk("a routine that returns in it").choose(1).steps("RETURN").choose(0).steps("TRY, THROW 1, FINALLY, CALL 1, NOTE 0, END")
@@ -497,6 +500,12 @@ public final class RunEdgesTest {
             .logs(9, 1, 2, 0, 9, 1, 2, 0).faults(11, 8, 6, 0, 1, 1);
         desk("behind a CALL").choose(1).steps("TRY, THROW 5, CATCH 1, END").choose(0)
             .steps("TRY, THROW 1, CATCH 1, CALL 1, TELL, END").run(0).logs(9, 1, 2, 0);
+    }
+
+    /** Of 200 that are counted 191 TELLs: the others are TRY, THROW, LOOP and six rounds. */
+    private static void theLongestLog() {
+        desk("the longest LOG").steps("TRY, THROW 1, CATCH 1, LOOP 6").steps(34, "TELL").steps("END, END").run(10)
+            .counts(40, 0, 200, 764, 1, 0).log(760, 9).log(761, 1).log(762, 2).log(763, 0).log(764, 0).fault(1, 25);
     }
 
     /** 'The LOG is empty at the beginning of each run.' */

@@ -281,6 +281,11 @@ public final class StepsEdgesTest {
         due("FINE", 4, 2.5, 3, 2.5);
         due("FINE", 4, -2.5, 1e15, -2.5);
         due("FINE", 4, 3, 3, 0);
+        due("FINE", 4, -3, 3, -0.0);
+        due("FINE", 4, 0.75, 0.5, 0.25);
+        due("FINE", 4, -0.75, 0.5, -0.25);
+        due("FINE", 4, 0.75, -0.5, 0.25);
+        due("FINE", 4, -1, 1, -0.0);
         due("FINE", 4, 1, 0.1, 0.09999999999999995);
         due("FINE", 4, 1e15, 0.1, 1e15 % 0.1);
         due("FINE", 4, -1e15, 0.3, -1e15 % 0.3);
@@ -396,6 +401,7 @@ public final class StepsEdgesTest {
         due("ROUGH", 0, 0.1, 0.2, 0.1f + 0.2f);
         due("ROUGH", 1, 1, 0.9, 1f - 0.9f);
         due("ROUGH", 1, 16777217, 16777216, 0);
+        due("ROUGH", 1, 16777216, -1, 16777216);
         due("ROUGH", 2, 0.1, 0.1, 0.1f * 0.1f);
         due("ROUGH", 2, 1e-30, 1e-30, 0);
         due("ROUGH", 2, -1e-30, 1e-30, -0.0);
