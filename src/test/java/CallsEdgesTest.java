@@ -8,6 +8,7 @@ public final class CallsEdgesTest {
         aNewObject();
         aNewObjectHasRoutineZeroAtHand();
         objectsAreApart();
+        theLastCall();
         chooseOfNoneSuch();
         chooseTellsTheSteps();
         stepOfNoSuchWhat();
@@ -80,6 +81,16 @@ public final class CallsEdgesTest {
         Desk one = desk("one object").steps("SET 0 8, MAKE 0 0, NOTE 0, THROW 1").run(9);
         desk("another object").counts(0, 0, 0, 0, 0, 0).dial(0, 0).size(0, -1).noFault();
         one.counts(4, 0, 4, 1, 0, 0).dial(0, 1).size(0, 1).faults(9, 3);
+    }
+
+    /** 'An object is used for at most 512 calls': the last of them answers as the first ones do. */
+    private static void theLastCall() {
+        Desk desk = desk("512 calls").steps("SET 1 8, LOOP 6, TRY, TRY, THROW 1, CATCH 9, WRAP 2, FINALLY, FINE 0 0 1, END")
+            .steps("CATCH 11, TELL, END, END");
+        for (int call = 15; call < 512; call++) {
+            desk.run(0);
+        }
+        desk.dial(0, 6 * 497);
     }
 
     /** Promise 2: '-1, and nothing is done: there is none such' */

@@ -494,6 +494,10 @@ public final class RunEdgesTest {
         desk("in the inner one").steps("TRY, THROW 1, CATCH 1, TRY, THROW 2, CATCH 1, TELL, END, END").run(0).logs(9, 4, 3, 0);
         desk("in a FINALLY part").steps("TRY, THROW 1, CATCH 1, TRY, THROW 2, CATCH 1, FINALLY, TELL, END, END").run(0)
             .logs(9, 1, 2, 0);
+        desk("in a FINALLY part behind a fault").steps("TRY, THROW 1, CATCH 1, TRY, THROW 2, FINALLY, TELL, END, END").run(9)
+            .logs(9, 1, 2, 0).fault(1, 4);
+        desk("AGAIN in a FINALLY part").steps("TRY, THROW 1, CATCH 1, TRY, THROW 2, FINALLY, AGAIN, END, END").run(9)
+            .fault(1, 1);
         desk("behind the inner one").steps("TRY, THROW 1, CATCH 1, TRY, THROW 2, CATCH 1, END, TELL, AGAIN, END").run(9)
             .logs(9, 1, 2, 0).fault(1, 1);
         desk("in a LOOP and an IF").steps("TRY, THROW 1, CATCH 1, LOOP 2, IF 0 1 0, TELL, END, END, WRAP 0, END").run(11)
